@@ -811,8 +811,8 @@ public final class QuakeNet {
 
         /** The square root as the machine rounds it; 0.0 for all that is not above 0.0. */
         static double root(double v) {
-            if (!(v > 0.0)) {
-                return 0.0;
+            if (!(v > 0.0) || v > 1.7976931348623157E308) {
+                return v > 0.0 ? v : 0.0;
             }
             double w = v;
             double back = 1.0 / 67108864.0;
@@ -825,24 +825,35 @@ public final class QuakeNet {
                 back = back / 4294967296.0;
             }
             // now w is 2^-10 .. 2^54; these steps bring it to a whole number of 2^52 .. 2^54
-            for (int k = 32; k >= 2; k = k / 2) {
-                if (w < (double) (1L << (54 - k))) {
-                    w = w * (double) (1L << k);
-                    back = back / (double) (1L << (k / 2));
-                }
+            if (w < 4194304.0) {
+                w = w * 4294967296.0;
+                back = back / 65536.0;
             }
-            return (double) wholeRoot(w) * back;
-        }
-
-        // The nearest whole number to the root of w * 2^52, w being a whole number of 2^52 .. 2^54.
-        private static long wholeRoot(double w) {
+            if (w < 274877906944.0) {
+                w = w * 65536.0;
+                back = back / 256.0;
+            }
+            if (w < 70368744177664.0) {
+                w = w * 256.0;
+                back = back / 16.0;
+            }
+            if (w < 1125899906842624.0) {
+                w = w * 16.0;
+                back = back / 4.0;
+            }
+            if (w < 4503599627370496.0) {
+                w = w * 4.0;
+                back = back / 2.0;
+            }
+            // a straight line is so near to the root of 1.0 .. 4.0 that three steps are enough
             double m = w / 4503599627370496.0;
-            double y = m / 3.0 + 0.7083333333333334;
-            for (int i = 0; i < 4; i++) {
-                y = (y + m / y) * 0.5;
-            }
+            double y = m < 2.0 ? 0.4173 * m + 0.5902 : 0.2951 * m + 0.8346;
+            y = (y + m / y) * 0.5;
+            y = (y + m / y) * 0.5;
+            y = (y + m / y) * 0.5;
+            // s comes to the root of w * 2^52, rounded down; both products wrap around, but their
+            // difference is small, and so it is exact
             long s = (long) (y * 4503599627370496.0);
-            // both products wrap around, but their difference is small, and so it is exact
             long rest = ((long) w << 52) - s * s;
             for (int i = 0; i < 8 && rest < 0L; i++) {
                 s = s - 1L;
@@ -852,7 +863,7 @@ public final class QuakeNet {
                 rest = rest - (2L * s + 1L);
                 s = s + 1L;
             }
-            return rest > s ? s + 1L : s;
+            return (double) (rest > s ? s + 1L : s) * back;
         }
 
         /** LOG of v > 0.0, to the base 2. */
@@ -1957,13 +1968,11 @@ public final class QuakeNet {
             this.stations = stations;
         }
 
-        private double arrivalOf(int p, double x, double y, double z) {
-            return layers.arrival(stations[picks.station[p]], picks.phase[p], x, y, z);
-        }
-
         /** RESIDUAL of a member. */
         double rest(int e, int p) {
-            return (picks.sample[p] - events.origin[e]) - arrivalOf(p, events.x[e], events.y[e], events.z[e]);
+            Station at = stations[picks.station[p]];
+            double arrival = layers.arrival(at, picks.phase[p], events.x[e], events.y[e], events.z[e]);
+            return (picks.sample[p] - events.origin[e]) - arrival;
         }
 
         /** COST of an event if it were at x, y and began at o. */
@@ -2083,7 +2092,8 @@ public final class QuakeNet {
                 int p = events.memberAt(e, k);
                 int s = picks.station[p];
                 // two members of one station are its phases 0 and 1: the dear part is the same
-                row[k] = s == lastStation ? row[k - 1] * 1.75 : layers.arrival(stations[s], picks.phase[p], x, y, z);
+                boolean second = k > 0 && s == lastStation;
+                row[k] = second ? row[k - 1] * 1.75 : layers.arrival(stations[s], picks.phase[p], x, y, z);
                 lastStation = s;
             }
         }
