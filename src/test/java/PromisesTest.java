@@ -86,11 +86,15 @@ public final class PromisesTest {
         return s;
     }
 
+    private static void skipTo(QuakeNet n, int station, int block) {
+        for (int i = 0; i < 32 && n.status(station, 0) < block * 32; i++) n.skip(station);
+    }
+
     /** Begins anew at the block ahead of the sample's (which must not be behind) and brings a pick there. */
     private static int pickAt(QuakeNet n, int station, int sample, long height) {
         int block = sample / 32;
         int before = n.count(1);
-        while (n.status(station, 0) < (block - 1) * 32) n.skip(station);
+        skipTo(n, station, block - 1);
         row(n, station, block - 1, 1, ones(32));
         long[] last = ones(sample % 32 + 1);
         last[sample % 32] = height;
@@ -230,6 +234,8 @@ public final class PromisesTest {
         n.packet(0, 0, 0, 7);
         double[] want = {10, -7, 4, -1, 0, 30000, 0};
         for (int i = 0; i < 7; i++) due("sample " + i, n.ground(0, i), bits(want[i]));
+        due("silence", n.swing(1, 0, 0), 1);
+        n.lane(0);
         n.swing(32, 1, 0);
         refused("swing", n, ROOM, x -> x.swing(1, 1, 1));
         for (int k : new int[] {0, -1, 33, LOW, HIGH}) refused("swing n", n, OUTSIDE, x -> x.swing(k, 5, 1));
@@ -281,6 +287,9 @@ public final class PromisesTest {
         n.calibrate(1, -1, 999, 7);
         due("in floats", n.ground(1, 0), bits((((16777216L * 16 + 16) / 16.0f + 1.0f) * 999.0f) / 7.0f));
         due("not a number", n.ground(1, 1), bits(Double.NaN));
+        row(n, 1, 1, 2, 56);
+        n.calibrate(1, 3, 10, 7);
+        due("in floats", n.ground(1, 32), bits((0.5f * 10.0f) / 7.0f));
         refused("calibrate", n, UNKNOWN, x -> x.calibrate(2, 0, 0, 2000));
         refused("calibrate", n, UNKNOWN, x -> x.calibrate(-1, 0, 0, 0));
         for (int k : new int[] {-1001, 1001, LOW, HIGH}) {
@@ -312,6 +321,9 @@ public final class PromisesTest {
             n.filter(0, sort, 5);
             due("y begun anew", n.now(0, 0), 0L);
             due("fit begun anew", n.status(0, 1), 0);
+            n.rework(0);
+            n.read(0, 1);
+            due("all of it begun anew", n.now(0, 0), bits(sort == 0 ? 16.0 : sort == 3 ? a * (a * 16.0) : a * 16.0));
         }
         QuakeNet n = new QuakeNet();
         n.station(0, 0, 1);
@@ -346,6 +358,9 @@ public final class PromisesTest {
             }
             n.picker(0, sort, 3, 5, 255);
             due("begun anew", n.now(0, 1), 0L);
+            n.rework(0);
+            n.read(0, 1);
+            due("all of it begun anew", n.now(0, 1), bits(sort == 0 ? (4.0 / 3) / (4.0 / 5) : Math.sqrt((16.0 / 3) / (16.0 / 5))));
         }
         QuakeNet n = new QuakeNet();
         n.station(0, 0, 1);
@@ -409,6 +424,11 @@ public final class PromisesTest {
             ws[i] = 2 * i - 9;
         }
         due("match of what was read", n.now(0, 1), bits(matchOf(ws, ys, 1)));
+        n.rework(0);
+        n.read(0, 7);
+        due("no y is kept", n.now(0, 1), 0L);
+        n.read(0, 1);
+        due("match of the first", n.now(0, 1), bits(matchOf(ws, ys, 0)));
         for (int k : new int[] {-1, 8, LOW, HIGH}) refused("i", n, OUTSIDE, x -> x.wave(k, 0));
         for (int k : new int[] {-101, 101, LOW, HIGH}) refused("v", n, OUTSIDE, x -> x.wave(0, k));
         for (int i = 0; i < 8; i++) due("wave", n.wave(i, 0), ws[i]);
@@ -470,6 +490,10 @@ public final class PromisesTest {
         due("stores met", n.count(15), 1);
         due("places met", n.count(16), 2);
         refused("not fewer", n, STATE, x -> x.packet(0, 31, 1, 3));
+        n.raw(6);
+        refused("the same", n, STATE, x -> x.packet(0, 31, 1, 3));
+        n.lane(1);
+        n.raw(5);
         refused("another beginning", n, STATE, x -> x.packet(0, 31, 1, 4));
         n.raw(6);
         due("more of the same", n.packet(0, 31, 1, 4), 4);
@@ -477,7 +501,10 @@ public final class PromisesTest {
         refused("another kind", n, STATE, x -> x.packet(0, 31, 2, 32));
         due("an empty lane of its kind", n.packet(0, 5, 2, 2), 2);
         refused("an empty lane of another", n, -15, x -> x.packet(0, 6, 1, 2));
-        due("behind an empty row", n.packet(0, 5, 2, 32), 32);
+        n.lane(1);
+        refused("silence of another kind", n, STATE, x -> x.packet(0, 5, 1, 32));
+        n.lane(2);
+        due("behind silence", n.packet(0, 5, 2, 32), 32);
         packetOfNoNumbers(2);
         packetOfNoNumbers(3);
     }
@@ -578,6 +605,7 @@ public final class PromisesTest {
         due("to the very end", n.read(0, 32), 0);
         due("place", n.status(0, 0), 1024);
         due("at the end", n.read(0, 1), 4);
+        due("the end is no failure", n.count(14), 0);
         due("status", n.status(0, 3), 4);
         refused("station", n, UNKNOWN, x -> x.read(1, 0));
         for (int k : new int[] {0, -1, 129, LOW, HIGH}) refused("n", n, OUTSIDE, x -> x.read(0, k));
@@ -601,12 +629,9 @@ public final class PromisesTest {
         for (int i = 4; i < 32; i += 2) beats[i] = 1000;
         row(n, s, 0, 1, beats);
         // 14 picks a block: 0 behind each, so that it is armed again
-        while (n.count(1) < 336) {
+        for (int i = 0; i < 24; i++) {
             due("read", n.read(s, 32), 0);
             n.rework(s);
-            if (n.count(1) % 14 != 0) {
-                break;
-            }
         }
         due("picks", n.count(1), 336);
         due("336 are not too many", n.read(s, 6), 0);
@@ -833,6 +858,20 @@ public final class PromisesTest {
         due("no pick by arming", n.count(1), 1);
         n.read(0, 1);
         due("fired", n.count(1), 2);
+        QuakeNet even = new QuakeNet();
+        even.station(0, 0, 1);
+        even.picker(0, 0, 1, 2, 1);
+        for (int b = 0; b < 4; b++) row(even, 0, b, 1, ones(32));
+        even.read(0, 128);
+        due("a rate of 1.0", even.now(0, 1), bits(1.0));
+        due("does not arm it", even.status(0, 4), 0);
+        QuakeNet just = new QuakeNet();
+        just.station(0, 0, 1);
+        just.picker(0, 0, 1, 2, 32);
+        row(just, 0, 0, 1, 0, 0, 0, 1000);
+        just.read(0, 4);
+        due("a rate of 2.0", just.now(0, 1), bits(2.0));
+        due("is not above 2.0", just.count(1), 0);
     }
 
     private static void amplitude() {
@@ -927,6 +966,42 @@ public final class PromisesTest {
         due("refused ones change nothing", n.count(3), 1);
         due("edges", n.rule(16, 1000), 1);
         due("edges", n.rule(2, -1000), 1);
+        ruleAtFirst(0, 1);
+        ruleAtFirst(-1, 0);
+        ruleOfWholeSize();
+    }
+
+    // moves the size by the stations' terms to 0 .. 1/16, and then by more
+    private static void ruleAtFirst(int more, int alerts) {
+        QuakeNet n = withEvent();
+        int sixteenths = (int) Math.floor(Double.longBitsToDouble(n.size(0)) * 16.0);
+        for (int s = 0; s < 4; s++) n.term(s, more - sixteenths);
+        n.tick();
+        due("a size of 0 at first", n.count(3), alerts);
+    }
+
+    // powers of 2 alone: log(1024) + 1.5 * log(1 + 63) is 19
+    private static void ruleOfWholeSize() {
+        QuakeNet n = new QuakeNet();
+        n.layer(200, 16);
+        for (int s = 0; s < 2; s++) {
+            alertStation(n, 1000, 1000);
+            pickAt(n, s, 900, 20);
+        }
+        due("a smaller one ahead", n.vote(1000, 0, 0, 2), 0);
+        alertStation(n, 63, 0);
+        alertStation(n, 0, 63);
+        alertStation(n, -63, 0);
+        for (int s = 2; s < 5; s++) pickAt(n, s, 100, 1024);
+        due("vote", n.vote(1000, 0, 0, 3), 1);
+        due("size", n.size(1), bits(19.0));
+        n.rule(3, 304);
+        n.tick();
+        due("just as great", n.event(1, 6), 0);
+        due("its event", n.alert(0, 0), 1);
+        n.rule(3, 305);
+        n.tick();
+        due("greater is told", n.event(1, 6), NONE);
     }
 
     private static void alert() {
@@ -988,21 +1063,27 @@ public final class PromisesTest {
         refusedLong("no such layer", n, STATE, x -> x.time(5, 500, 30));
         n.layer(1, 160);
         refusedLong("not faster than all above", n, STATE, x -> x.time(5, 4000, 0));
+        n.layer(1, 1);
+        n.layer(1, 1);
+        refusedLong("the last way there is", n, STATE, x -> x.time(7, 4000, 0));
         for (int k : new int[] {-1, 8, LOW, HIGH}) refusedLong("way", n, OUTSIDE, x -> x.time(k, 1, 1));
         for (int k : new int[] {-1, 4001, LOW, HIGH}) refusedLong("distance", n, OUTSIDE, x -> x.time(0, k, 1));
         for (int k : new int[] {-1, 601, LOW, HIGH}) refusedLong("depth", n, OUTSIDE, x -> x.time(0, 1, k));
         refusedLong("outside ahead of state", new QuakeNet(), OUTSIDE, x -> x.time(8, 1, 1));
-        due("direct through three", n.time(1, 777, 85), bits(modelOf().direct(777, 85)));
-        due("time through three", n.time(0, 777, 85), bits(modelOf().timeOf(777, 85)));
-    }
-
-    private static ReferenceNet modelOf() {
-        ReferenceNet m = new ReferenceNet();
-        m.layer(30, 48);
-        m.layer(50, 80);
-        m.layer(1, 160);
-        m.layer(1, 160);
-        return m;
+        QuakeNet six = new QuakeNet();
+        ReferenceNet model = new ReferenceNet();
+        int[][] all = {{30, 48}, {50, 80}, {7, 40}, {60, 100}, {20, 130}, {1, 160}};
+        for (int[] l : all) {
+            six.layer(l[0], l[1]);
+            model.layer(l[0], l[1]);
+        }
+        for (int d = 0; d <= 4000; d += 250) {
+            for (int z : new int[] {0, 10, 30, 31, 80, 85, 87, 140, 167, 168, 600}) {
+                due("direct", six.time(1, d, z), bits(model.direct(d, z)));
+                due("time", six.time(0, d, z), bits(model.timeOf(d, z)));
+            }
+        }
+        due("border 5", six.time(7, 4000, 0), bits(model.border(5, 4000, 0)));
     }
 
     private static void table() {
@@ -1137,7 +1218,10 @@ public final class PromisesTest {
         due("picks", n.count(1), 5);
         due("phases 1", n.pick(3, 2) + n.pick(4, 2), 2);
         due("samples", n.pick(3, 1) * 1000 + n.pick(4, 1), 273277);
+        alertStation(n, 0, 0);
+        pickAt(n, 3, 209, 1000);
         due("vote", n.vote(1000, 0, 20, 3), 0);
+        due("too far off", n.pick(5, 4), NONE);
         due("x", n.eventAt(0, 0), bits(1000.0));
         due("y", n.eventAt(0, 1), bits(0.0));
         due("origin by the one with all votes", n.eventAt(0, 3), bits(101.0));
@@ -1320,6 +1404,8 @@ public final class PromisesTest {
     private static void search() {
         promise = 37;
         QuakeNet n = beside();
+        due("an edge", n.search(0, 1000, 75), 1);
+        n = beside();
         due("search", n.search(0, 1000, 10), 1);
         due("x", n.eventAt(0, 0), 0L);
         due("y", n.eventAt(0, 1), 0L);
@@ -1441,6 +1527,23 @@ public final class PromisesTest {
         n.tick();
         due("the rule does not hold", n.count(3), 0);
         due("rows by both", n.count(7), 2);
+        sizeOfOne();
+    }
+
+    private static void sizeOfOne() {
+        QuakeNet n = new QuakeNet();
+        n.layer(200, 160);
+        n.wave(0, 1);
+        n.station(0, 0, 1);
+        n.picker(0, 2, 1, 2, 20);
+        row(n, 0, 0, 1, 1000, 0, 0, 0, 0, 0, 0, 0);
+        n.read(0, 8);
+        alertStation(n, 0, 0);
+        row(n, 1, 0, 1, 1, 1, 1, 1, 1, 1, 1, 1024);
+        n.read(1, 8);
+        due("vote", n.vote(1000, 0, 0, 2), 0);
+        double d = Math.sqrt(1000.0 * 1000.0 + 1000.0 * 1000.0);
+        due("size by the one that is not silent", n.size(0), bits((10.0 + 1.5 * ReferenceNet.log(1.0 + d)) + 0.0));
     }
 
     /** Events at one place, three of them 32 samples apart and one far behind. */
@@ -1452,7 +1555,7 @@ public final class PromisesTest {
         int[] samples = {5, 37, 69, 300};
         for (int e = 0; e < 4; e++) {
             for (int s = 0; s < 2; s++) {
-                while (n.status(s, 0) < samples[e] / 32 * 32) n.skip(s);
+                skipTo(n, s, samples[e] / 32);
                 long[] xs = ones(samples[e] % 32 + 1);
                 xs[samples[e] % 32] = 1000;
                 row(n, s, samples[e] / 32, 1, xs);
@@ -1605,6 +1708,9 @@ public final class PromisesTest {
         n.packet(0, 0, 0, -1);
         due("a failure below 0", n.code(), -14);
         n.digest();
+        due("not refused", n.code(), 0);
+        n.lane(9);
+        n.now(0, 0);
         due("not refused", n.code(), 0);
         n.layer(1, 1);
         due("none is no refusal", n.vote(200, 0, 0, 2), NONE);
