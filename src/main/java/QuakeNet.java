@@ -520,11 +520,9 @@ public final class QuakeNet {
         double[] row = takeRow();
         int done = 0;
         int end = 0;
-        while (done < steps && end == 0) {
+        for (int i = 0; i < steps && end == 0; i++) {
             end = locator.step(event, row);
-            if (end == 0) {
-                done++;
-            }
+            done = end == 0 ? i + 1 : i;
         }
         giveRowBack();
         events.end[event] = end;
@@ -1789,10 +1787,11 @@ public final class QuakeNet {
             leader[first] = first;
             queue[0] = first;
             int queued = 1;
-            for (int at = 0; at < queued; at++) {
+            for (int at = 0; at < queued && at < queue.length; at++) {
                 int near = queue[at];
                 for (int e = 0; e < lives.count; e++) {
-                    if (lives.isKnown(e) && leader[e] == NONE && apart(near, e) <= bound) {
+                    boolean free = lives.isKnown(e) && leader[e] == NONE;
+                    if (free && queued < queue.length && apart(near, e) <= bound) {
                         leader[e] = first;
                         queue[queued] = e;
                         queued++;

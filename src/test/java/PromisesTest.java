@@ -1083,6 +1083,11 @@ public final class PromisesTest {
                 due("time", six.time(0, d, z), bits(model.timeOf(d, z)));
             }
         }
+        QuakeNet whole = new QuakeNet();
+        whole.layer(15, 16);
+        whole.layer(15, 34);
+        refusedLong("a little too near", whole, STATE, x -> x.time(3, 15, 0));
+        near("the first distance is of it", whole.time(3, 16, 0), 16 / 2.125 + 30 * Math.sqrt(1.0 - 1.0 / (2.125 * 2.125)), 1e-9);
         due("border 5", six.time(7, 4000, 0), bits(model.border(5, 4000, 0)));
     }
 
@@ -1174,6 +1179,7 @@ public final class PromisesTest {
         refused("outside ahead of state", new QuakeNet(), OUTSIDE, x -> x.vote(0, 0, 0, 2));
         due("edges", n.vote(200, 600, 400, 16), NONE);
         voteTolerance();
+        voteTie();
         voteMembers();
         voteWithoutRoom();
         voteForTooMany();
@@ -1193,6 +1199,34 @@ public final class PromisesTest {
         due("the first node", n.eventAt(0, 1), bits(-1000.0));
         double d = Math.sqrt(1500.0 * 1500.0 + 1500.0 * 1500.0);
         due("by the first candidate", n.eventAt(0, 3), bits(300 - d / 10.0));
+    }
+
+    // both picks of station 1 are 2 from the origin that pick 0 tells
+    private static void voteTie() {
+        QuakeNet n = new QuakeNet();
+        n.layer(200, 160);
+        alertStation(n, 500, 500);
+        pickAt(n, 0, 300, 1000);
+        alertStation(n, 500, 500);
+        skipTo(n, 1, 9);
+        row(n, 1, 9, 1, withBeats(32, 298 - 288, 302 - 288));
+        n.read(1, 12);
+        n.filter(1, 0, 8);
+        n.read(1, 20);
+        due("picks", n.count(1), 3);
+        due("phases", n.pick(1, 2) + n.pick(2, 2), 0);
+        due("samples", n.pick(1, 1) * 1000 + n.pick(2, 1), 298302);
+        due("vote", n.vote(1000, 0, 16, 2), 0);
+        due("the first candidate", n.eventAt(0, 3), bits(300 - Math.sqrt(1500.0 * 1500.0 + 1500.0 * 1500.0) / 10.0));
+        due("the first of equals", n.member(0, 1), 1);
+        due("not the other", n.pick(2, 4), NONE);
+    }
+
+    private static long[] withBeats(int n, int first, int second) {
+        long[] xs = ones(n);
+        xs[first] = 1000;
+        xs[second] = 1000;
+        return xs;
     }
 
     /** Stations with several picks, and phases 1: the nearest of each, in the order of stations. */
@@ -1431,6 +1465,7 @@ public final class PromisesTest {
         due("z", n.eventAt(0, 2), 0L);
         due("a node of steps from -1000", (int) Double.longBitsToDouble(n.eventAt(0, 0)), 200);
         due("no place yet", n.event(0, 3), NONE);
+        searchAtTheEdge();
         refused("step", n, OUTSIDE, x -> x.search(0, 399, 0));
         refused("step", n, OUTSIDE, x -> x.search(0, 1001, 0));
         refused("depth step", n, OUTSIDE, x -> x.search(0, 400, -1));
@@ -1441,6 +1476,23 @@ public final class PromisesTest {
         refused("outside ahead of state", n, OUTSIDE, x -> x.search(0, 0, 0));
         due("rows", n.count(7), 2);
         due("none out", n.count(6), 0);
+    }
+
+    private static void searchAtTheEdge() {
+        QuakeNet n = new QuakeNet();
+        n.layer(200, 160);
+        int[][] places = {{1000, 900}, {900, 1000}, {1000, 500}};
+        int[] samples = {310, 310, 350};
+        for (int s = 0; s < 3; s++) {
+            alertStation(n, places[s][0], places[s][1]);
+            pickAt(n, s, samples[s], 1000);
+        }
+        n.vote(1000, 50, 400, 3);
+        due("search", n.search(0, 500, 5), 1);
+        due("x", n.eventAt(0, 0), bits(1000.0));
+        due("y", n.eventAt(0, 1), bits(1000.0));
+        due("z", n.eventAt(0, 2), 0L);
+        due("origin", n.eventAt(0, 3), bits(300.0));
     }
 
     private static void error() {
@@ -1544,6 +1596,9 @@ public final class PromisesTest {
         due("vote", n.vote(1000, 0, 0, 2), 0);
         double d = Math.sqrt(1000.0 * 1000.0 + 1000.0 * 1000.0);
         due("size by the one that is not silent", n.size(0), bits((10.0 + 1.5 * ReferenceNet.log(1.0 + d)) + 0.0));
+        n.rule(2, 0);
+        n.tick();
+        due("enough for the rule", n.count(3), 1);
     }
 
     /** Events at one place, three of them 32 samples apart and one far behind. */
