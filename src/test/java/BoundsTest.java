@@ -10,6 +10,9 @@ public final class BoundsTest {
     private static final int UNKNOWN = Check.UNKNOWN, OUTSIDE = Check.OUTSIDE, STATE = Check.STATE, ROOM = Check.ROOM;
     private static final int NONE = Check.NONE, LOW = Check.LOW, HIGH = Check.HIGH;
 
+    // whether the call in question answers a long, which tells 0 instead of a code
+    private static boolean isLong = false;
+
     private interface Call {
         long of(Net n, int v);
     }
@@ -40,9 +43,6 @@ public final class BoundsTest {
         for (int f = 1; f <= 6; f++) Check.due(what + ", FAILURES " + f, after[f] - before[f], f == failure ? 1 : 0);
         Check.must(what + " changes nothing", look.apply(n).equals(look.apply(made.get())));
     }
-
-    // whether the call in question answers a long, which tells 0 instead of a code
-    private static boolean isLong = false;
 
     private static void refused(String what, int code, Plain call) {
         refused(what, Scene::make, Scene::look, code, 0, 0, call);

@@ -32,12 +32,17 @@ public final class EventsTest {
         Check.due("events", n.count(2), 60);
         Check.due("not a member", n.pick(120, 4), Check.NONE);
         Check.refuses("outside ahead of room", n, Check.OUTSIDE, m -> m.vote(1000, 0, 0, 17));
+        Check.due("each by itself", n.swarms(3), 60);
+        Check.due("all of them", n.swarms(4), 1);
+        Check.due("known", n.known(0, 1), 60);
+        Check.must("a digest", n.digest() != 0L);
+        Check.due("a tick", n.tick(), 1);
         Check.due("all are taken back", n.rework(0), 61);
-        Check.due("none is known", n.known(0, 1), 0);
+        Check.due("none is known", n.known(1, 1), 0);
         for (int i = 0; i < 2; i++) Picking.beat(n, 0);
         Check.refuses("60 ever", n, Check.ROOM, m -> m.vote(1000, 0, 0, 2));
         Check.refuses("no 61st", n, Check.UNKNOWN, m -> m.event(60, 0));
-        Check.due("the last one", n.event(59, 2), 0);
+        Check.due("the last one", n.event(59, 2), 1);
     }
 
     private static void sixtyCandidates() {
@@ -330,6 +335,43 @@ public final class EventsTest {
         Check.due("PHASE 1", m.pick(1, 2), 1);
         Check.due("has no VOTE", m.vote(1000, 0, 0, 4), Check.NONE);
         Check.due("the others have", m.vote(1000, 0, 0, 3), 0);
+    }
+
+    private static void allStations() {
+        Check.says("members: PICKS, by STATIONS, of each PHASE 0 ahead of PHASE 1: two of each of 16 STATIONS at most");
+        for (int missing = 0; missing < 2; missing++) {
+            Net n = new Net();
+            n.layer(200, 160);
+            // 100 from the first node: PHASE 0 takes 10, PHASE 1 17.5
+            for (int s = 0; s < 16; s++) {
+                Picking.station(n, -940, -920);
+                if (s >= missing) Picking.hear(n, s, 1000, 15, 23);
+            }
+            Check.due("16 by 16", n.vote(1000, 0, 2, 16), missing == 0 ? 0 : Check.NONE);
+            if (missing == 0) {
+                Check.due("members", n.event(0, 0), 32);
+                Check.due("with PHASE 0", n.event(0, 5), 16);
+                for (int k = 0; k < 32; k++) Check.due("member", n.member(0, k), k);
+                Check.refuses("no more", n, Check.UNKNOWN, m -> m.member(0, 32));
+                Check.due("COST", n.eventAt(0, 4), costOf(n));
+                Check.due("SIZE", n.size(0), sizeBy(1000, 100.0, 0));
+                n.rule(16, 0);
+                n.tick();
+                Check.due("an ALERT by 16", n.count(3), 1);
+                Check.due("settled or not, it is placed", n.search(0, 1000, 5), 1);
+                n.rework(15);
+                Check.due("15 are fewer than LEAST", n.event(0, 0), 0);
+            }
+        }
+    }
+
+    private static double costOf(Net n) {
+        double sum = 0.0;
+        for (int k = 0; k < 32; k++) {
+            double r = Check.number(n.residual(0, k));
+            sum = sum + n.pick(k, 3) * (r * r);
+        }
+        return sum;
     }
 
     // ---- placing
@@ -671,6 +713,7 @@ public final class EventsTest {
         secondPhasesAlone();
         takenBack();
         candidates();
+        allStations();
         singularOnes();
         settled();
         stepsDone();

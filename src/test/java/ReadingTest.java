@@ -323,6 +323,24 @@ public final class ReadingTest {
         Check.due("q is 0.0", n.now(0, 1), 0.0);
     }
 
+    private static void sumsFromNought() {
+        Check.says("sums from 0.0 on: noughts below nought do not make a sum below nought");
+        Net n = picking(2, 1, 2, 255);
+        lay(n, 0, 0, 1, 0, -3, 0, 0, 0, 0, 0, 0);
+        for (int i = 0; i < 8; i++) n.wave(i, i == 1 ? 0 : -1);
+        n.read(0, 8);
+        Check.due("c is 0.0", n.now(0, 1), 0.0);
+        Check.says("abs of Math: that of a nought below nought is 0.0");
+        Net m = picking(2, 1, 2, 16);
+        m.calibrate(0, 0, -1, 1);
+        m.wave(0, -1);
+        lay(m, 0, 0, 1, 1000, 0, 0, 0, 0, 0, 0, 0, 0);
+        m.read(0, 9);
+        Check.due("y", m.now(0, 0), -0.0);
+        Check.due("a pick by what is past", m.pick(0, 1), 7);
+        Check.due("its amplitude", m.amplitude(0), 0.0);
+    }
+
     // y becomes so small behind one beat that y * y is 0.0, and W * y is not
     private static void matchOfTheLeast() {
         Check.says("MATCH: if p * q > 0.0 .. else 0.0, where the y fade");
@@ -615,6 +633,15 @@ public final class ReadingTest {
         Check.refuses("no other", n, Check.UNKNOWN, m -> m.pick(400, 0));
         Check.refuses("no room", n, Check.ROOM, m -> m.read(1, 1));
         Check.due("known", n.known(0, 0), 400);
+        int own = n.status(0, 9);
+        Check.due("of both", own + n.status(1, 9), 400);
+        Check.due("the same", n.compare(0, 0), 0);
+        Check.must("a digest", n.digest() != 0L);
+        n.layer(1, 1);
+        Check.due("taken back", n.rework(0), own);
+        Check.due("taken back", n.rework(1), 400 - own);
+        Check.due("no candidates", n.vote(1000, 0, 0, 2), Check.NONE);
+        Check.due("known", n.known(0, 0), 0);
     }
 
     private static void traces() {
@@ -649,6 +676,7 @@ public final class ReadingTest {
         unfitAreReadOver();
         ratioOfSilence();
         matchOfEight();
+        sumsFromNought();
         matchOfTheLeast();
         theMiddleOne();
         moreThanLong();

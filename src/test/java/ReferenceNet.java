@@ -676,7 +676,7 @@ public final class ReferenceNet {
         }
         return n;
     }
-    private static double[] solve(double[][] n) {
+    static double[] solve(double[][] n) {
         for (int c = 0; c < 3; c++) {
             int best = c;
             for (int i = c; i < 3; i++) if (Math.abs(n[i][c]) > Math.abs(n[best][c])) best = i;
