@@ -139,6 +139,31 @@ public final class AlertsTest {
         return n;
     }
 
+    private static void sizeThatIsThere() {
+        Check.says("THE RULE HOLDS for a KNOWN EVENT .. whose SIZE is there");
+        // a MATCH by what is past: the PICK itself, and all behind it, is silent
+        for (int loud = 0; loud < 2; loud++) {
+            Net n = new Net();
+            n.layer(200, 160);
+            n.wave(0, 1);
+            for (int s = 0; s < 2; s++) {
+                n.station(0, 0, 1);
+                n.picker(s, 2, 1, 2, 16);
+                n.lane(1);
+                n.raw(1000);
+                n.swing(7, 0, 0);
+                if (s < loud) n.raw(1000);
+                n.packet(s, 0, 1, 32);
+                n.read(s, 9);
+            }
+            Check.due("vote", n.vote(1000, 0, 0, 2), 0);
+            n.rule(2, -1000);
+            n.tick();
+            Check.due("ALERTS with " + loud + " that can be heard", n.count(3), loud);
+            Check.due("it was looked for", n.count(7), 1);
+        }
+    }
+
     private static void lookedForOnlyThen() {
         Check.says("it is looked for only then, of KNOWN EVENTS with so many");
         Net n = wholeSize(4, 0);
@@ -382,6 +407,7 @@ public final class AlertsTest {
         neverKnown();
         ruleAtFirst();
         ruleAtItsBorder();
+        sizeThatIsThere();
         lookedForOnlyThen();
         ticks();
         inOrder();

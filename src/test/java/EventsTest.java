@@ -213,6 +213,12 @@ public final class EventsTest {
             Check.due("vote", n.vote(1000, 0, 16, 3), 0);
             Check.due("members with one " + (late - 90) + " late", n.event(0, 0), late <= 92 ? 4 : 3);
         }
+        for (int tolerance = 23; tolerance <= 24; tolerance++) {
+            Net n = Picking.around();
+            for (int s = 0; s < 4; s++) Picking.hear(n, s, 1000, s == 3 ? 93 : 30 + 20 * s);
+            Check.due("vote", n.vote(1000, 0, tolerance, 3), 0);
+            Check.due("members with one 3 late by " + tolerance + " / 8", n.event(0, 0), tolerance == 24 ? 4 : 3);
+        }
     }
 
     private static void secondPhases() {
@@ -235,6 +241,9 @@ public final class EventsTest {
         exact = withSecond(81);
         exact.vote(1000, 0, 0, 4);
         Check.due("1 late by 0", exact.event(0, 0), 4);
+        Net less = withSecond(82);
+        less.vote(1000, 0, 7, 4);
+        Check.due("2 late by 7 / 4", less.event(0, 0), 4);
         Check.says("likewise one: the nearest with PHASE 1, of these the first");
         int[][] pairs = {{79, 81}, {78, 81}, {79, 82}};
         int[] chosen = {2, 3, 2};
@@ -518,6 +527,23 @@ public final class EventsTest {
         Check.due("0 by 0", deep.eventAt(0, 2), 0.0);
         Check.due("work rows", deep.count(7), 3);
         Check.due("no place()", deep.event(0, 3), Check.NONE);
+        Check.says("SEARCHED: o is (the sum of QUALITY * (SAMPLE - ARRIVAL)) / the sum of QUALITY, of both PHASES");
+        Net second = withSecond(80);
+        second.vote(1000, 40, 400, 2);
+        Check.due("members", second.event(0, 0), 5);
+        second.search(0, 1000, 10);
+        placedAt(second, 0, 0.0, 0.0, 0.0, 10.0);
+        Check.due("COST", second.eventAt(0, 4), 0.0);
+        second = withSecond(83);
+        second.vote(1000, 40, 400, 2);
+        second.search(0, 1000, 0);
+        double above = 0.0, below = 0.0;
+        for (int k = 0; k < 5; k++) {
+            int pick = second.member(0, k);
+            above = above + second.pick(pick, 3) * (second.pick(pick, 1) - (k == 2 ? 70.0 : 20.0 * (second.pick(pick, 0) + 1)));
+            below = below + second.pick(pick, 3);
+        }
+        placedAt(second, 0, 0.0, 0.0, 0.0, above / below);
         Check.says("SEARCHED: nodes as of a VOTE");
         Net n2 = corner();
         n2.vote(1000, 0, 400, 2);
@@ -674,6 +700,36 @@ public final class EventsTest {
         }
     }
 
+    private static void swarmsInGroups() {
+        Check.says("swarms: how many groups; swarm: The least EVENT of the group");
+        Net n = new Net();
+        n.layer(200, 160);
+        for (int s = 0; s < 2; s++) {
+            Picking.station(n, -400, -200);
+            Picking.hearAnew(n, s, 3, 40, 44, 90, 95, 99);
+        }
+        for (int e = 0; e < 6; e++) Check.due("vote", n.vote(1000, 0, 0, 2), e);
+        int[][] leaders = {{0, 1, 2, 3, 4, 5}, {0, 1, 1, 3, 4, 4}, {0, 1, 1, 3, 3, 3}, {0, 0, 0, 3, 3, 3}, {0, 0, 0, 0, 0, 0}};
+        int[] bounds = {3, 4, 5, 37, 46}, groups = {6, 4, 3, 2, 1};
+        for (int i = 0; i < bounds.length; i++) {
+            Check.due("groups by " + bounds[i], n.swarms(bounds[i]), groups[i]);
+            for (int e = 0; e < 6; e++) Check.due("least one by " + bounds[i], n.swarm(e), leaders[i][e]);
+        }
+        Check.says("swarms: or by others between, whichever came first");
+        Net m = new Net();
+        m.layer(200, 160);
+        for (int s = 0; s < 4; s++) {
+            Picking.station(m, -400, -200);
+            if (s < 2) Picking.hearAnew(m, s, 3, 23);
+            else Picking.hearAnew(m, s, 13);
+        }
+        for (int e = 0; e < 3; e++) Check.due("vote", m.vote(1000, 0, 0, 2), e);
+        Check.due("the last one lies between", m.eventAt(2, 3), Check.number(m.eventAt(0, 3)) + 10.0);
+        Check.due("by 9", m.swarms(9), 3);
+        Check.due("by 10", m.swarms(10), 1);
+        for (int e = 0; e < 3; e++) Check.due("least one", m.swarm(e), 0);
+    }
+
     private static void swarmsByPlace() {
         Check.says("swarms: by their places and ORIGINS; KNOWN EVENTS");
         Net n = new Net();
@@ -723,6 +779,7 @@ public final class EventsTest {
         sizesOfSilence();
         logs();
         swarming();
+        swarmsInGroups();
         swarmsByPlace();
         Check.end("events");
     }

@@ -397,6 +397,35 @@ public final class ReadingTest {
         Check.must("each is the middle one at times", which[0] > 3 && which[1] > 3 && which[2] > 3);
     }
 
+    /** Filter 2 by 15 / 16 fades to the least number there is; then a beat, and one SAMPLE that brings y to just 0.0. */
+    private static Net faded(int sort) {
+        Net n = picking(sort, 1, 2, 255);
+        n.filter(0, 2, 15);
+        n.wave(0, 1);
+        double k = (15 / 16.0) * -1000.0;
+        int least = 0;
+        for (; k + (15 / 16.0) * (0.0 - k) != 0.0; least++) k = k + (15 / 16.0) * (0.0 - k);
+        for (int b = 0; b <= (least + 8) / 32; b++) {
+            n.lane(1);
+            for (int t = 32 * b; t < 32 * b + 32; t++) {
+                if (b == 0 && t == 0) n.raw(-1000);
+                else if (least + 1 >= 32 * b && least + 2 < 32 * b + 32) n.raw(t == least + 1 ? 1 << 24 : t == least + 2 ? -(1 << 20) : 0);
+            }
+            n.packet(0, b, 1, 32);
+        }
+        for (int t = 0; t < least + 8; t += 8) n.read(0, Math.min(8, least + 8 - t));
+        return n;
+    }
+
+    private static void threeOfNoughts() {
+        Check.says("THREE: min and max are those of Math, by which a nought below nought is the lesser");
+        Check.due("y", faded(2).now(0, 0), 0.0);
+        Check.due("RATIO's", faded(0).now(0, 1), 0.0);
+        Check.must("CHANGE's", Check.number(faded(1).now(0, 1)) > 0.0);
+        Check.due("MATCH's", faded(2).now(0, 1), -0.0);
+        Check.due("THREE's", faded(3).now(0, 1), 0.0);
+    }
+
     // ---- picks
 
     private static void moreThanLong() {
@@ -460,6 +489,34 @@ public final class ReadingTest {
             Check.due("its rate", n.now(0, 1), 4.0 / ((128.0 + more) / 2.0));
             Check.due("picks", n.count(1), more < 0 ? 1 : 0);
         }
+    }
+
+    private static void pickerAtFirst() {
+        Check.says("picker: which it was (0; 4, 16, 48 at first)");
+        int picks = 0;
+        // SAMPLE 16 is the 17th: its RATE comes to about 3.0
+        for (int before = 2500; before <= 2700; before += 10) {
+            Net n = new Net();
+            n.station(0, 0, 1);
+            lay(n, 0, 0, 1, 0, 0, 0, 0, 0, 0, 0, 0, 0, 0, 0, 0, 0, 0, before, 0, 1000);
+            double s = 0.0, l = 0.0;
+            for (int t = 0; t <= 16; t++) {
+                double u = t == 14 ? before : t == 16 ? 1000.0 : 0.0;
+                s = s + (u - s) / 4;
+                l = l + (u - l) / 16;
+            }
+            n.read(0, 16);
+            Check.due("none by 16", n.count(1), 0);
+            n.read(0, 1);
+            Check.due("its rate", n.now(0, 1), s / l);
+            Check.due("picks by a rate of " + s / l, n.count(1), s / l > 3.0 ? 1 : 0);
+            picks += n.count(1);
+        }
+        Check.must("both sides were met", picks > 0 && picks < 21);
+        Net n = new Net();
+        n.station(0, 0, 1);
+        Check.due("at first", n.picker(0, 3, 4, 16, 48), 0);
+        for (int sort = 0; sort < 4; sort++) Check.due("which it was", n.picker(0, sort, 4, 16, 48), (sort + 3) % 4);
     }
 
     private static void armedAgain() {
@@ -621,6 +678,19 @@ public final class ReadingTest {
         Check.due("picks", n.count(1), 11);
         double[] want = {800, 900, 1000, 1100, 1100, 1100, 1100, 1100, 1100, 1100, 1100};
         for (int p = 0; p < 11; p++) Check.due("amplitude of " + p, n.amplitude(p), want[p]);
+        // many more, each beat higher than the one before: the 7th behind it is the last that counts
+        Net m = picking(0, 1, 2, 16);
+        for (int b = 0; b < 3; b++) {
+            int[] rising = new int[32];
+            for (int i = 0; i < 16; i++) {
+                rising[2 * i] = 2 * i + 1;
+                rising[2 * i + 1] = 1000 + 160 * b + 10 * i;
+            }
+            beats(m, b, rising);
+        }
+        m.read(0, 96);
+        Check.due("picks", m.count(1), 47);
+        for (int p = 0; p < 47; p++) Check.due("amplitude of " + p, m.amplitude(p), 1000.0 + 10.0 * Math.min(47, p + 1 + 7));
     }
 
     private static void fourHundred() {
@@ -638,6 +708,7 @@ public final class ReadingTest {
         Check.due("the same", n.compare(0, 0), 0);
         Check.must("a digest", n.digest() != 0L);
         n.layer(1, 1);
+        Check.due("an event of the first two", n.vote(1000, 0, 0, 2), 0);
         Check.due("taken back", n.rework(0), own);
         Check.due("taken back", n.rework(1), 400 - own);
         Check.due("no candidates", n.vote(1000, 0, 0, 2), Check.NONE);
@@ -679,8 +750,10 @@ public final class ReadingTest {
         sumsFromNought();
         matchOfTheLeast();
         theMiddleOne();
+        threeOfNoughts();
         moreThanLong();
         aboveTheBound();
+        pickerAtFirst();
         armedAgain();
         phases();
         qualities();

@@ -107,6 +107,31 @@ public final class RowsTest {
         Check.due("count() is a call", n.code(), Check.OUTSIDE);
     }
 
+    private static void theLatestCode() {
+        Check.says("code(): The code of the latest call but code(): each call that is not refused makes it 0");
+        clears(m -> m.lane(1), m -> m.raw(1), m -> m.noise(1, 1, 1), m -> m.swing(1, 1, 1), m -> m.station(0, 0, 0),
+            m -> m.calibrate(0, 0, 1, 1), m -> m.filter(0, 0, 8), m -> m.picker(0, 0, 4, 16, 48), m -> m.wave(0, 1), m -> m.term(0, 1),
+            m -> m.packet(5, 9, 3, 9), m -> m.ground(5, 0), m -> m.spectrum(5, 0, 1), m -> m.read(5, 1), m -> m.skip(0),
+            m -> m.rework(0), m -> m.status(0, 0), m -> m.now(0, 0), m -> m.now(0, 1), m -> m.trace(0), m -> m.pick(0, 0),
+            m -> m.amplitude(0), m -> m.tick(), m -> m.rule(2, 0), m -> m.alert(0, 0), m -> m.layer(1, 1), m -> m.time(0, 1, 1),
+            m -> m.time(1, 1, 1), m -> m.time(3, 4000, 1), m -> m.table(1, 1), m -> m.tabled(1, 1), m -> m.doubt(),
+            m -> m.vote(1000, 0, 0, 2), m -> m.event(1, 0), m -> m.eventAt(1, 0), m -> m.eventAt(1, 4), m -> m.member(1, 0),
+            m -> m.residual(1, 0), m -> m.place(1, 1), m -> m.search(1, 1000, 0), m -> m.error(1, 0), m -> m.size(1), m -> m.swarms(1),
+            m -> m.swarm(1), m -> m.known(0, 0), m -> m.compare(0, 0), m -> m.digest(), m -> m.count(0), m -> m.count(16));
+    }
+
+    @SafeVarargs
+    private static void clears(ToLongFunction<Net>... calls) {
+        for (int i = 0; i < calls.length; i++) {
+            Net n = Scene.make();
+            n.count(10);
+            Check.due("code ahead of call " + i, n.code(), Check.OUTSIDE);
+            calls[i].applyAsLong(n);
+            Check.due("code behind call " + i, n.code(), 0);
+            Check.due("code behind call " + i + ", again", n.code(), 0);
+        }
+    }
+
     // ---- the lane
 
     private static void laneAtFirst() {
@@ -221,6 +246,7 @@ public final class RowsTest {
         for (int s = 0; s < 16; s++) Check.due("its number", n.station(s - 1000, 1000 - s, s % 4), s);
         Check.refuses("a 17th", n, Check.ROOM, m -> m.station(0, 0, 0));
         Check.due("stations", n.count(0), 16);
+        Check.refuses("no 17th", n, Check.UNKNOWN, m -> m.status(16, 0));
         for (int s = 0; s < 16; s++) {
             Check.due("x", n.status(s, 5), s - 1000);
             Check.due("y", n.status(s, 6), 1000 - s);
@@ -361,6 +387,14 @@ public final class RowsTest {
             longer(withRow(kind, 5, LEAST_LONG), kind, Check.STATE, 5, 0, 3);
             longer(withRow(kind, 5, 0), kind, Check.STATE, 5, LEAST_LONG, 3);
         }
+        // in each BLOCK by its own row
+        Net last = withRow(1, 8, 9);
+        lay(last, 31, 1, 2, 5, 6);
+        last.lane(1);
+        last.raw(8);
+        last.raw(9);
+        Check.refuses("the beginning of another BLOCK", last, Check.STATE, m -> m.packet(0, 31, 1, 3));
+        lay(last, 31, 1, 3, 5, 6);
         longer(withRow(2, 16777216), 2, 0, 16777217);
         longer(withRow(3, 16777216), 3, Check.STATE, 16777217);
         longer(withRow(0, 65541), 0, 0, 5);
@@ -433,6 +467,10 @@ public final class RowsTest {
             grounds(Double.NaN, kind, LEAST_LONG, 5, 0, 0);
             grounds(Double.NaN, kind, LEAST_LONG, 5, 7, 0);
         }
+        for (int kind = 2; kind < 4; kind++) {
+            grounds(Double.POSITIVE_INFINITY, kind, 1, 0, 1, 0);
+            grounds(Double.NEGATIVE_INFINITY, kind, -1, 0, 1, 0);
+        }
         for (int kind = 0; kind < 4; kind++) {
             int c = kind < 2 ? 1 : 16;
             grounds(Double.NaN, kind, 5 * c, 5, 7, 0);
@@ -492,6 +530,7 @@ public final class RowsTest {
         codesInOrder();
         longsTellNought();
         theCode();
+        theLatestCode();
         laneAtFirst();
         numbersAsBits();
         numbersAsParts();

@@ -67,6 +67,12 @@ public final class TimesTest {
         Check.due("it is from 31 on", n.time(1, 4000, 31), through(4000.0, new double[] {30, 1}, new double[] {3, 10}));
         Check.must("then most of the way lies in it", time(n, 1, 4000, 31) < 410.0);
         Check.due("straight up", n.time(1, 0, 31), 0.0 + 30.0 * Math.sqrt(1.0 / (3.0 * 3.0)) + 1.0 * Math.sqrt(1.0 / (10.0 * 10.0)));
+        Check.says("60 times: m is (a + b) * 0.5");
+        Check.due("where 59 are too few", layered(147, 104, 5, 112).time(1, 6, 542), through(6.0, new double[] {147, 395}, new double[] {6.5, 7}));
+        Check.says("f is 1.0 / the greatest v, wherever it is");
+        // where halving from 1.0 / v 0 on would tell another last bit
+        Check.due("it is below", layered(6, 1, 5, 140).time(1, 33, 105), through(33.0, new double[] {6, 99}, new double[] {1 / 16.0, 140 / 16.0}));
+        Check.due("it is below", layered(75, 7, 5, 95).time(1, 21, 309), through(21.0, new double[] {75, 234}, new double[] {7 / 16.0, 95 / 16.0}));
         Net slow = layered(30, 160, 50, 48);
         Check.due("the greatest is above", slow.time(1, 4000, 60), through(4000.0, new double[] {30, 30}, new double[] {10, 3}));
         Check.due("nowhere at all", slow.time(1, 0, 0), 0.0);
@@ -109,6 +115,11 @@ public final class TimesTest {
         Check.due("just 10", deep.time(3, 10, 8), border(10.0, 13 / 16.0, new double[] {24}, new double[] {5 / 16.0}));
         Check.refuses("13 from 0", deep, Check.STATE, m -> m.time(3, 13, 0));
         Check.must("14 from 0", deep.time(3, 14, 0) != 0L);
+        Net thin = layered(1, 80, 1, 160);
+        Check.refuses("1 by a thin one", thin, Check.STATE, m -> m.time(3, 1, 0));
+        Check.due("2 by a thin one", thin.time(3, 2, 0), border(2.0, 10.0, new double[] {2}, new double[] {5}));
+        Check.due("DIRECT is sooner", thin.time(0, 2, 0), 2.0 / 5.0);
+        Check.due("6 by a thin one, and it is sooner", thin.time(0, 6, 0), border(6.0, 10.0, new double[] {2}, new double[] {5}));
     }
 
     private static void thicknesses() {
