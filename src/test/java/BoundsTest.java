@@ -425,6 +425,14 @@ public final class BoundsTest {
         Check.due("an alert", n.event(1, 6), 1);
         Check.due("no alert", n.event(0, 6), NONE);
         Check.due("NONE is no refusal", n.code(), 0);
+        Check.due("by what it was placed", n.event(1, 3), 0);
+        Check.due("steps", n.event(1, 4), 2);
+        Net fresh = Picking.shaken();
+        fresh.vote(1000, 0, 0, 4);
+        for (int what : new int[] {2, 3, 4, 6}) {
+            Check.due("of one that just came, " + what, fresh.event(0, what), NONE);
+            Check.due("NONE is no refusal", fresh.code(), 0);
+        }
         promise(34, false, "member: UNKNOWN");
         bounds("k", 0, 4, UNKNOWN, (m, v) -> m.member(1, v));
         beyond("event", UNKNOWN, Scene::make, (m, v) -> m.member(v, 0), -1, 0, 2, LOW, HIGH);
