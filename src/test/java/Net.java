@@ -1,4 +1,5 @@
 import java.util.StringJoiner;
+import java.util.function.Consumer;
 
 /**
  * A QuakeNet as the tests of boundaries use it: each call is also asked of the second writing of the
@@ -10,6 +11,13 @@ final class Net {
     private final QuakeNet net = new QuakeNet();
     private final ReferenceNet model = new ReferenceNet();
     private int calls = 0;
+    private Consumer<Net> behind = null;
+    private boolean within = false;
+
+    /** Does something behind each call from now on (null: nothing), but not behind its own ones. */
+    void behind(Consumer<Net> what) {
+        behind = what;
+    }
 
     private long both(long got, long want, String name, long... numbers) {
         calls++;
@@ -20,6 +28,11 @@ final class Net {
             StringJoiner told = new StringJoiner(", ", name + "(", ")");
             for (long v : numbers) told.add(Long.toString(v));
             Check.fault(told + " answered " + got + ", the second writing " + want);
+        }
+        if (behind != null && !within) {
+            within = true;
+            behind.accept(this);
+            within = false;
         }
         return got;
     }

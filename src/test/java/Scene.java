@@ -1,3 +1,5 @@
+import java.util.function.Consumer;
+
 /** An object in the middle of its work, with some of everything, and a look at all of it. */
 final class Scene {
     private Scene() {
@@ -9,7 +11,19 @@ final class Scene {
      * its PICKER is 0.0; THE LANE has three DOUBLES, one of them not a number.
      */
     static Net make() {
+        return make(null);
+    }
+
+    /** The same, but that something is done behind each single call of it. */
+    static Net make(Consumer<Net> behind) {
         Net n = new Net();
+        n.behind(behind);
+        fill(n);
+        n.behind(null);
+        return n;
+    }
+
+    private static void fill(Net n) {
         n.layer(30, 96);
         n.layer(60, 128);
         n.layer(10, 160);
@@ -53,7 +67,6 @@ final class Scene {
         n.raw(33);
         n.raw(Long.MIN_VALUE);
         n.raw(-5);
-        return n;
     }
 
     private static void shake(Net n, int station, int block, int kind, int from) {
